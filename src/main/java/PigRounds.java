@@ -597,14 +597,16 @@ public final class PigRounds {
 
         /** The GUESS of those who are not wise; number is the k of a mean, the t of a trend. */
         static int guessBy(int way, int number, int a, int b, int c, int printed) {
+            int guess = 0;
             switch (way) {
-                case LAST: return within(a);
-                case MEAN: return within(meanOf(number, a, b, c));
-                case TREND: return within(a + (a - b) * number / 10);
-                case CONTRARY: return within(2 * ((a + b + c) / 3) - a);
-                case TOLD: return within(printed);
-                default: return 0;
+                case LAST: guess = a; break;
+                case MEAN: guess = meanOf(number, a, b, c); break;
+                case TREND: guess = a + (a - b) * number / 10; break;
+                case CONTRARY: guess = 2 * ((a + b + c) / 3) - a; break;
+                case TOLD: guess = printed; break;
+                default: break;
             }
+            return Math.max(0, Math.min(HIGHEST, guess));
         }
 
         private static int meanOf(int k, int a, int b, int c) {
@@ -612,10 +614,6 @@ public final class PigRounds {
                 return a;
             }
             return k == 2 ? (a + b) / 2 : (a + b + c) / 3;
-        }
-
-        private static int within(int guess) {
-            return Math.max(0, Math.min(HIGHEST, guess));
         }
     }
 
@@ -790,10 +788,9 @@ public final class PigRounds {
         }
 
         int guessOf(Kind kind) {
-            return kind.way == Way.WISE ? wiseGuess(bringUnwise()) : unwiseGuess(kind);
-        }
-
-        private int unwiseGuess(Kind kind) {
+            if (kind.way == Way.WISE) {
+                return wiseGuess(bringUnwise());
+            }
             return Way.guessBy(kind.way, kind.number, a, b, c, printed);
         }
 
@@ -832,7 +829,7 @@ public final class PigRounds {
             for (int k = 0; k < kindCount && k < kinds.length; k++) {
                 Kind kind = kinds[k];
                 if (!kind.out && kind.way != Way.WISE) {
-                    kind.brought = kind.pigsBy(unwiseGuess(kind));
+                    kind.brought = kind.pigsBy(Way.guessBy(kind.way, kind.number, a, b, c, printed));
                     all += kind.many * kind.brought;
                 }
             }
