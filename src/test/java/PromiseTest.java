@@ -196,6 +196,8 @@ public final class PromiseTest {
         fault(x, "market 1\t1 1;", 8, 1);
         fault(x, "market 1 1 1;kind last 1 1 1 1 1;", 13, 1);
         fault(x, "market 1 1 1;start 100 1 1;", 19, 2);
+        fault(x, "market 1 1 1;start 1 100 1;", 21, 2);
+        fault(x, "market 1 1 1;start 1 1 100;", 23, 2);
         fault(x, "market 1 1 1;start 1 1 1", 24, 1);
         String head = "market 1 1 1;start 1 1 1;";
         fault(x, head + ";", 25, 1);
@@ -225,7 +227,17 @@ public final class PromiseTest {
         fault(x, "market 1 1 1;start 2 2", 22, 1);
         due("the land stays", x.now(6), 1);
         due("the land stays", x.kind(0), 2);
-        x.ministry(0, 99, 7);
+        due("another", Due.read(x, "market 90 1 0;start 1 1 1;kind last 1 9 0 0 0;kind last 1 9 0 99 0;"), 2);
+        x.ministry(99, 99, 7);
+        x.years(2);
+        due("it has", x.now(4), 14);
+        due("out", x.count(3), 0);
+        due("in its place", Due.read(x, "market 90 1 0;start 1 1 1;kind last 1 9 0 0 0;"), 1);
+        for (int what = 3; what < 7; what++) {
+            due("anew " + what, x.now(what), 0);
+        }
+        due("the ministry is off", x.years(1), 81);
+        due("the ministry has none", x.now(4), 0);
         due("in its place", Due.read(x, "market 50 2 1;start 11 12 13;"), 0);
         due("year", x.now(6), 0);
         due("print", x.print(5), 11);
@@ -397,7 +409,11 @@ public final class PromiseTest {
         due("sells what is left", x.years(1), 80);
         due("none left", x.years(1), 81);
         due("cost", x.now(5), 9 * 90 - 8 * 77 - 80);
-        due("coin by the PRICE", x.farmers(0, 4), 9 + 9 * (81 + 90 + 77 + 77 + 80 + 81));
+        x.ministry(99, 99, 1);
+        due("a lot of 1", x.years(1), 82);
+        x.ministry(0, 80, 1);
+        due("a lot of 1", x.years(1), 80);
+        due("coin by the PRICE", x.farmers(0, 4), 9 + 9 * (81 + 90 + 77 + 77 + 80 + 81 + 82 + 80));
     }
 
     private static void promise13() {
@@ -492,10 +508,24 @@ public final class PromiseTest {
     }
 
     private static void roundsThatDoNotComeBack() {
+        round("market 83 17 0;start 41 67 49;kind mean 3 16 4 19 0 999;kind contrary 21 5 3 0 999;"
+            + "kind mean 3 23 0 4 0 999;", 30, 45);
+        // This one comes back by 31 YEARS, behind 35.
+        round("market 27 19 0;start 23 82 63;kind contrary 7 9 4 0 999;kind mean 1 8 2 5 0 999;"
+            + "kind contrary 37 1 5 0 999;", NONE, NONE);
+        round("market 46 19 0;start 86 30 36;kind last 8 2 1 0 999;kind contrary 9 1 16 0 999;", 5, 60);
+        // This one by 11 YEARS, but behind 61.
+        round("market 56 16 0;start 80 7 99;kind contrary 12 2 18 0 999;kind mean 3 1 0 8 0 999;", NONE, NONE);
         // The ministry buys in one YEAR after the other; PRICES stay at 0, so it is a round.
         PigRounds x = Due.landOf("market 50 1 1;start 0 0 0;kind last 10 9 0 0 999;");
         x.ministry(99, 99, 1);
         due("what the ministry has does not count", x.round(0), 1);
+    }
+
+    private static void round(String text, int p, int t) {
+        PigRounds x = Due.landOf(text);
+        due("p of " + text, x.round(0), p);
+        due("t of " + text, x.round(1), t);
     }
 
     private static void promise17() {
@@ -558,6 +588,7 @@ public final class PromiseTest {
         due("one YEAR", x.calm(1, 0), 100500);
         due("two are not", x.calm(2, 50), NONE);
         due("tried on a copy", x.now(6), 0);
+        calmByHand();
         x.ministry(99, 99, 99);
         x.years(2);
         int has = x.now(4);
@@ -565,6 +596,23 @@ public final class PromiseTest {
         x.calm(20, 99);
         due("has", x.now(4), has);
         due("cost", x.now(5), cost);
+    }
+
+    private static void calmByHand() {
+        // 60 less x: 10, 50, .. With LOW above 10 a LOT of 20 makes 30 of 10, and 30 stays, if HIGH is no
+        // less: it costs 600. A LOT of 10 makes 20 of 10; 40 comes then, or, if HIGH is below that, the 10
+        // are sold and it is 30: bought for 200, sold for 300. A LOT of 30 makes 40, and 20 or 50 comes.
+        PigRounds x = Due.landOf("market 60 1 0;start 50 50 50;kind last 1 0 10 0 999;");
+        due("one YEAR", x.calm(1, 0), 100500);
+        due("all alike", x.calm(2, 0), 203015);
+        due("9 apart", x.calm(2, 9), 203015);
+        due("10 apart", x.calm(2, 10), 102015);
+        due("99 apart", x.calm(2, 99), 102015);
+        x.ministry(60, 60, 50);
+        x.years(2);
+        due("it has all", x.now(4), 100);
+        // The last PRICE is 50 again; with what it has it could sell 30 for 30 each in the second YEAR.
+        due("it has none ahead", x.calm(2, 99), 102015);
     }
 
     private static void promise20() {
@@ -598,6 +646,8 @@ public final class PromiseTest {
         x.set(0, 6, 50);
         due("last", x.shown(0, 3, 1), 1);
         due("and rows of 0", x.shown(0, 3, 2), 1);
+        x.set(0, 59, 99);
+        due("99 is a price", x.shown(0, 56, 1), 0);
         x.set(0, 59, 100);
         due("an item", x.shown(0, 0, 15), BAD);
         due("PLACE ahead of an item", x.shown(0, 57, 1), PLACE);
