@@ -1,9 +1,5 @@
 /** Each promise by worked examples: ordinary inputs, the edges that the document names, wrong inputs. */
-public final class PromiseTest {
-    private static final int NONE = -1000000, BAD = -1000001, STATE = -1000002, FULL = -1000003;
-    private static final int NULL = -1000011, PLACE = -1000012, KIND = -1000013, SIZE = -1000014, STORE = -1000015;
-    private static final int LEAST = Integer.MIN_VALUE, MOST = Integer.MAX_VALUE;
-
+public final class PromiseTest extends Edges {
     // A kind of each way; nobody brings pigs but by his base.
     private static final String ALL_WAYS = "market 90 10 2; start 60 30 20;\n"
         + "kind last 3 1 0 0 9; kind mean 2 4 1 0 0 9; kind trend 5 5 1 0 0 9; kind contrary 6 1 0 0 9; kind told 7 1 0 0 9;";
@@ -40,11 +36,8 @@ public final class PromiseTest {
         Due.end();
     }
 
-    private static void due(String what, long got, long want) {
-        Due.due(what, got, want);
-    }
-
     private static void promise1() {
+        sentence(1, "by examples");
         PigRounds x = new PigRounds();
         due("new: dies", x.dies(), STATE);
         due("new: now", x.now(0), STATE);
@@ -62,6 +55,7 @@ public final class PromiseTest {
     }
 
     private static void promise2() {
+        sentence(2, "by examples");
         PigRounds x = new PigRounds();
         due("sheet of 0", x.sheet(0, 0, 0), 0);
         due("sheet of 60", x.sheet(7, 2, 60), 60);
@@ -82,6 +76,7 @@ public final class PromiseTest {
     }
 
     private static void promise3() {
+        sentence(3, "by examples");
         PigRounds x = new PigRounds();
         x.sheet(0, 0, 2);
         x.sheet(1, 1, 2);
@@ -105,6 +100,7 @@ public final class PromiseTest {
     }
 
     private static void promise4() {
+        sentence(4, "by examples");
         PigRounds x = new PigRounds();
         x.sheet(0, 1, 8);
         x.sheet(1, 1, 4);
@@ -140,6 +136,7 @@ public final class PromiseTest {
     }
 
     private static void promise5() {
+        sentence(5, "by examples");
         PigRounds x = new PigRounds();
         x.sheet(4, 0, 17);
         due("drop", x.drop(4), 17);
@@ -151,6 +148,7 @@ public final class PromiseTest {
     }
 
     private static void promise6() {
+        sentence(6, "by examples");
         PigRounds x = new PigRounds();
         due("n 0", x.feed(0, 0), BAD);
         due("n 9", x.feed(0, 9), BAD);
@@ -176,6 +174,7 @@ public final class PromiseTest {
     }
 
     private static void promise7() {
+        sentence(7, "by examples");
         PigRounds x = new PigRounds();
         fault(x, "", 0, 1);
         fault(x, " \n ", 3, 1);
@@ -251,6 +250,7 @@ public final class PromiseTest {
     }
 
     private static void promise8() {
+        sentence(8, "by examples");
         PigRounds x = new PigRounds();
         due("none yet", x.fault(), 0);
         fault(x, "market 0", 7, 2);
@@ -260,6 +260,7 @@ public final class PromiseTest {
     }
 
     private static void promise9() {
+        sentence(9, "by examples");
         PigRounds x = Due.landOf("market 90 5 2;start 60 30 20;"
             + "kind last 10 1 5 3 200;kind mean 2 9 2 7 4 100;kind trend 7 8 3 0 5 50;"
             + "kind contrary 7 0 20 99 999;kind told 1 9 9 0 0;");
@@ -321,6 +322,7 @@ public final class PromiseTest {
     }
 
     private static void promise10() {
+        sentence(10, "by examples");
         PigRounds x = new PigRounds();
         due("-1", x.print(-1), BAD);
         due("100", x.print(100), BAD);
@@ -335,6 +337,7 @@ public final class PromiseTest {
     }
 
     private static void promise11() {
+        sentence(11, "by examples");
         PigRounds x = new PigRounds();
         due("no land", x.ministry(0, 0, 0), STATE);
         due("low -1", x.ministry(-1, 0, 1), BAD);
@@ -355,6 +358,7 @@ public final class PromiseTest {
     }
 
     private static void promise12() {
+        sentence(12, "by examples");
         PigRounds x = new PigRounds();
         due("0", x.years(0), BAD);
         due("101", x.years(101), BAD);
@@ -394,6 +398,7 @@ public final class PromiseTest {
     }
 
     private static void promise12Ministry() {
+        sentence(12, "by examples");
         // 9 pigs a YEAR: open at 81.
         PigRounds x = Due.landOf("market 90 1 0;start 60 30 20;kind last 1 9 0 0 9;");
         x.ministry(81, 81, 4);
@@ -417,6 +422,7 @@ public final class PromiseTest {
     }
 
     private static void promise13() {
+        sentence(13, "by examples");
         PigRounds x = new PigRounds();
         due("-1", x.now(-1), BAD);
         due("7", x.now(7), BAD);
@@ -435,6 +441,7 @@ public final class PromiseTest {
     }
 
     private static void promise14() {
+        sentence(14, "by examples");
         due("no land", new PigRounds().dies(), STATE);
         due("nobody", dies("market 9 1 0;start 1 1 1;"), 0);
         due("last, below", dies("market 9 10 0;start 1 1 1;kind last 9 0 11 0 0;"), 0);
@@ -474,6 +481,7 @@ public final class PromiseTest {
     }
 
     private static void promise15() {
+        sentence(15, "by examples");
         due("no land", new PigRounds().steep(), STATE);
         due("nobody", Due.landOf("market 9 20 0;start 1 1 1;").steep(), 1);
         due("just above the edge", Due.landOf("market 9 1 0;start 1 1 1;kind last 10 0 10 0 0;").steep(), 11);
@@ -484,6 +492,7 @@ public final class PromiseTest {
     }
 
     private static void promise16() {
+        sentence(16, "by examples");
         PigRounds x = new PigRounds();
         due("2", x.round(2), BAD);
         due("-1", x.round(-1), BAD);
@@ -504,31 +513,10 @@ public final class PromiseTest {
         Due.read(x, "market 50 2 1;start 50 50 50;kind last 1 0 0 9 0;");
         due("p", x.round(0), 1);
         due("t: OUT behind the first", x.round(1), 2);
-        roundsThatDoNotComeBack();
-    }
-
-    private static void roundsThatDoNotComeBack() {
-        round("market 83 17 0;start 41 67 49;kind mean 3 16 4 19 0 999;kind contrary 21 5 3 0 999;"
-            + "kind mean 3 23 0 4 0 999;", 30, 45);
-        // This one comes back by 31 YEARS, behind 35.
-        round("market 27 19 0;start 23 82 63;kind contrary 7 9 4 0 999;kind mean 1 8 2 5 0 999;"
-            + "kind contrary 37 1 5 0 999;", NONE, NONE);
-        round("market 46 19 0;start 86 30 36;kind last 8 2 1 0 999;kind contrary 9 1 16 0 999;", 5, 60);
-        // This one by 11 YEARS, but behind 61.
-        round("market 56 16 0;start 80 7 99;kind contrary 12 2 18 0 999;kind mean 3 1 0 8 0 999;", NONE, NONE);
-        // The ministry buys in one YEAR after the other; PRICES stay at 0, so it is a round.
-        PigRounds x = Due.landOf("market 50 1 1;start 0 0 0;kind last 10 9 0 0 999;");
-        x.ministry(99, 99, 1);
-        due("what the ministry has does not count", x.round(0), 1);
-    }
-
-    private static void round(String text, int p, int t) {
-        PigRounds x = Due.landOf(text);
-        due("p of " + text, x.round(0), p);
-        due("t of " + text, x.round(1), t);
     }
 
     private static void promise17() {
+        sentence(17, "by examples");
         PigRounds x = new PigRounds();
         due("no land", x.bears(1, 1), BAD);
         // Both always bring the same: gains are equal, 40 are borne.
@@ -551,6 +539,7 @@ public final class PromiseTest {
     }
 
     private static void promise18() {
+        sentence(18, "by examples");
         PigRounds x = new PigRounds();
         due("-2", x.prints(-2), BAD);
         due("no land", x.prints(-1), STATE);
@@ -575,6 +564,7 @@ public final class PromiseTest {
     }
 
     private static void promise19() {
+        sentence(19, "by examples");
         PigRounds x = new PigRounds();
         due("n 0", x.calm(0, 0), BAD);
         due("n 21", x.calm(21, 0), BAD);
@@ -616,6 +606,7 @@ public final class PromiseTest {
     }
 
     private static void promise20() {
+        sentence(20, "by examples");
         PigRounds x = new PigRounds();
         x.sheet(0, 2, 60);
         due("all 0", x.shown(0, 0, 15), 8191);
@@ -657,6 +648,7 @@ public final class PromiseTest {
     }
 
     private static void promise21() {
+        sentence(21, "by examples");
         PigRounds x = Due.landOf(ALL_WAYS);
         for (int k = 0; k < 5; k++) {
             due("kind " + k, x.kind(k), k + 1);
@@ -668,6 +660,7 @@ public final class PromiseTest {
     }
 
     private static void promise22() {
+        sentence(22, "by examples");
         // Bits: as which GUESSERS each KIND is taken.
         int[] is = {0b11, 0b111, 0b1011, 0b11011, 0b100001, 0b1100001};
         PigRounds all = Due.landOf(ALL_WAYS);
@@ -687,6 +680,7 @@ public final class PromiseTest {
     }
 
     private static void promise23() {
+        sentence(23, "by examples");
         PigRounds x = Due.landOf(ALL_WAYS);
         x.print(17);
         asked(x, 0, 0, 3, 11, 10, 20);
@@ -718,6 +712,7 @@ public final class PromiseTest {
     }
 
     private static void promise24() {
+        sentence(24, "by examples");
         PigRounds x = Due.landOf(ALL_WAYS);
         due("none yet", x.trace(0), NONE);
         x.ask(3, 0);
@@ -732,6 +727,7 @@ public final class PromiseTest {
     }
 
     private static void promise25() {
+        sentence(25, "by examples");
         PigRounds x = Due.landOf(ALL_WAYS);
         x.sheet(0, 0, 0);
         x.sheet(7, 0, 5);
@@ -751,6 +747,7 @@ public final class PromiseTest {
     }
 
     private static void promise26() {
+        sentence(26, "by examples");
         PigRounds x = Due.landOf(ALL_WAYS);
         due("none", x.status(), 0);
         x.set(0, 0, 0);
