@@ -26,6 +26,7 @@ public final class YearEdgesTest extends Edges {
         outFromTheNextYearOn();
         feedAndRent();
         nowNumbers();
+        upToTheLastCall();
         Due.end();
     }
 
@@ -477,5 +478,20 @@ public final class YearEdgesTest extends Edges {
         for (int what = 0; what < want.length; what++) {
             due(when + ": " + what, x.now(what), want[what]);
         }
+    }
+
+    private static void upToTheLastCall() {
+        sentence(12, "An object is used for at most 512 calls");
+        PigRounds x = new PigRounds();
+        // 53 bytes come by 7 calls, and one more reads them.
+        due("calls 1 to 8", Due.read(x, "market 99 20 0;start 99 99 99;kind last 1 9 20 0 999;"), 1);
+        due("call 9", x.ministry(99, 99, 1), 1);
+        // 207 pigs at 89, 187 at 90, then 189 at 90 for good: one less, by 20, is as many.
+        for (int call = 10; call <= 509; call++) {
+            due("call " + call, x.years(100), 90);
+        }
+        due("call 510: THE YEAR", x.now(6), 50000);
+        due("call 511: COIN", x.farmers(0, 4), 999 + 207 * 89 + 187 * 90 + 49998L * 189 * 90);
+        due("call 512: what the ministry paid", x.now(5), 89 + 49999 * 90);
     }
 }
